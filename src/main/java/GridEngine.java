@@ -860,7 +860,9 @@ public final class GridEngine {
         void placeAll() {
             mainAxis = model.flow == 0 ? 1 : 0;
             sideAxis = 1 - mainAxis;
-            Arrays.fill(isPlaced, false);
+            for (int item = 0; item < MAX_ITEMS; item++) {
+                isPlaced[item] = false;
+            }
             placeFixed();
             placeWithMainStart();
             findSideCount();
