@@ -604,6 +604,7 @@ public final class GridEngine {
         private int length = 0;
         private int at = 0;
         private int number = 0;
+        private int kind = FIXED;
         private boolean hasZeroFactor = false;
         private int trackCount = 0;
         private final int[] parts = new int[CAPACITY * PARTS];
@@ -774,24 +775,26 @@ public final class GridEngine {
         }
 
         private boolean parseMinOrMax() {
-            if (!takeWord("m")) {
+            if (!takeSmallOrLarge()) {
                 return false;
             }
-            if (!isNext('i')) {
-                defineMinimum(LARGE, 0);
-                defineMaximum(LARGE, 0);
-                return takeWord("ax");
-            }
-            if (!takeWord("in")) {
-                return false;
-            }
-            if (isNext('m')) {
+            if (kind == SMALL && isNext('m')) {
                 return takeWord("max(") && parseMinimum() && takeWord(",")
                     && parseMaximum() && takeWord(")");
             }
-            defineMinimum(SMALL, 0);
-            defineMaximum(SMALL, 0);
+            defineMinimum(kind, 0);
+            defineMaximum(kind, 0);
             return true;
+        }
+
+        /** Reads min or max, which of both its second letter tells. */
+        private boolean takeSmallOrLarge() {
+            if (!takeWord("m")) {
+                return false;
+            }
+            boolean isSmall = isNext('i');
+            kind = isSmall ? SMALL : LARGE;
+            return takeWord(isSmall ? "in" : "ax");
         }
 
         private boolean parseMinimum() {
@@ -804,12 +807,9 @@ public final class GridEngine {
                 defineMinimum(SMALL, 0);
                 return takeWord("auto");
             }
-            if (!takeWord("m")) {
-                return false;
-            }
-            boolean isSmall = isNext('i');
-            defineMinimum(isSmall ? SMALL : LARGE, 0);
-            return takeWord(isSmall ? "in" : "ax");
+            boolean isCorrect = takeSmallOrLarge();
+            defineMinimum(kind, 0);
+            return isCorrect;
         }
 
         private boolean parseMaximum() {
@@ -822,12 +822,9 @@ public final class GridEngine {
                 defineMaximum(AUTO, 0);
                 return takeWord("auto");
             }
-            if (!takeWord("m")) {
-                return false;
-            }
-            boolean isSmall = isNext('i');
-            defineMaximum(isSmall ? SMALL : LARGE, 0);
-            return takeWord(isSmall ? "in" : "ax");
+            boolean isCorrect = takeSmallOrLarge();
+            defineMaximum(kind, 0);
+            return isCorrect;
         }
 
         private void defineMinimum(int kind, int value) {
