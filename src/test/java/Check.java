@@ -35,6 +35,10 @@ final class Check {
         compare(what, want.getSimpleName(), got);
     }
 
+    static void same(String what, String want, String got) {
+        compare(what, want, got);
+    }
+
     private static void compare(String what, String want, String got) {
         made++;
         if (!want.equals(got)) {
