@@ -521,6 +521,12 @@ public final class TextBoundaryTests {
                 Check.due("only the new letter is read", 1, () -> grid.readTracks(a));
                 Check.due("it is a track", 6, () -> grid.definition(a, 1, 1));
             }
+            GridEngine longer = new GridEngine();
+            Check.feed(longer, "555 66");
+            longer.readTracks(a);
+            Check.feed(longer, "7");
+            Check.due("a shorter text", 1, () -> longer.readTracks(a));
+            Check.due("no digit of the longer one", 7, () -> longer.definition(a, 1, 1));
         }
     }
 
